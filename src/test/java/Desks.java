@@ -1,7 +1,6 @@
 /** Desks in the states that several tests begin with. */
 final class Desks {
     static final int MAX_TYPES = 300;
-    static final int MAX_MEMBERS = 100;
     static final int MAX_SIZE = 524288;
 
     /** Numbers that are no type of a desk with at most 300 types. */
