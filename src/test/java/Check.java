@@ -1,17 +1,22 @@
-/** Compares answers with those that are due, and ends the test's program with 1 if one was wrong. */
+/** Compares answers with those that are due, and tells each that is not. */
 final class Check {
     private int wrong;
 
     void due(String call, int got, int want) {
         if (got != want) {
-            tell(call, Integer.toString(got), Integer.toString(want));
+            tell(call + " answered " + got + ", due is " + want);
         }
     }
 
     void due(String call, boolean got, boolean want) {
         if (got != want) {
-            tell(call, Boolean.toString(got), Boolean.toString(want));
+            tell(call + " answered " + got + ", due is " + want);
         }
+    }
+
+    void tell(String text) {
+        wrong++;
+        System.out.println(text);
     }
 
     boolean isClean() {
@@ -23,10 +28,5 @@ final class Check {
             System.out.println(wrong + " answers are not as due");
             System.exit(1);
         }
-    }
-
-    private void tell(String call, String got, String want) {
-        wrong++;
-        System.out.println(call + " answered " + got + ", due is " + want);
     }
 }

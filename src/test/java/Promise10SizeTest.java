@@ -1,32 +1,57 @@
 public final class Promise10SizeTest {
     public static void main(String[] args) {
-        Check check = new Check();
-        LayoutDesk desk = new LayoutDesk();
-        check.due("type 0", desk.size(0), 0);
-        check.due("type 3", desk.size(3), 2);
-        check.due("type 10", desk.size(10), 8);
-        check.due("pointer", desk.size(desk.pointer(10)), 4);
-        check.due("array", desk.size(desk.array(10, 5)), 40);
-        int r = desk.record(0);
-        int u = desk.record(1);
-        check.due("open struct", desk.size(r), 0);
-        check.due("open union", desk.size(u), 0);
-        desk.field(r, 10);
-        desk.bits(u, 5, 3, true);
-        check.due("open struct with a member", desk.size(r), 0);
-        check.due("open union with a member", desk.size(u), 0);
-        desk.finish(r);
-        desk.finish(u);
-        check.due("struct", desk.size(r), 8);
-        check.due("union", desk.size(u), 4);
-        check.due("the next number", desk.size(u + 1), -1);
-        for (int no : Desks.NO_TYPES) {
-            check.due("size(" + no + ")", desk.size(no), -1);
+        Sentences sentences = new Sentences();
+        sentences.test("10: The size of a type", Promise10SizeTest::sizes);
+        sentences.test("10: 0 for type 0 and open records", Promise10SizeTest::zero);
+        sentences.test("10: -1 if there is none", Promise10SizeTest::none);
+        sentences.test("10: .. asking changes nothing", Promise10SizeTest::asking);
+        sentences.end();
+    }
+
+    private static void sizes(Check check) {
+        int[] sizes = {0, 1, 1, 2, 2, 4, 4, 8, 8, 4, 8, 4, 4, 10};
+        Desk desk = Stories.busy().tell();
+        for (int t = 0; t < sizes.length; t++) {
+            check.due("size(" + t + ")", desk.size(t), sizes[t]);
         }
-        // 285 arrays of bytes fill the desk, of the lengths 1000 to 1284.
-        Desks.fillTo(desk, 300);
-        check.due("size(299)", desk.size(299), 1284);
-        check.due("size(300)", desk.size(300), -1);
-        check.end();
+        check.due("the least array", desk.size(desk.array(1, 1)), 1);
+        check.due("the greatest array", desk.size(desk.array(1, 524288)), 524288);
+    }
+
+    private static void zero(Check check) {
+        Desk desk = Stories.busy().tell();
+        check.due("type 0", desk.size(0), 0);
+        check.due("an open struct", desk.size(Stories.STRUCT), 0);
+        check.due("an open union", desk.size(Stories.UNION), 0);
+        check.due("an empty one", desk.size(Stories.EMPTY), 0);
+        desk.finish(Stories.EMPTY);
+        check.due("an empty one behind a refused finish", desk.size(Stories.EMPTY), 0);
+        desk.finish(Stories.STRUCT);
+        desk.finish(Stories.UNION);
+        check.due("a struct", desk.size(Stories.STRUCT), 8);
+        check.due("a union", desk.size(Stories.UNION), 12);
+    }
+
+    private static void none(Check check) {
+        for (int t : Stories.NO_TYPES) {
+            Unchanged.due(check, Stories.busy(), "size(" + t + ")", d -> d.size(t), -1);
+        }
+        Unchanged.due(check, Stories.busy(), "size(17) of 17", d -> d.size(17), -1);
+        Desk desk = Stories.busy().tell();
+        check.due("size(17)", desk.size(17), -1);
+        desk.pointer(1);
+        check.due("size(17), made", desk.size(17), 4);
+        check.due("size(18)", desk.size(18), -1);
+        Desk full = Stories.busy().fillTo(299).tell();
+        check.due("size(299) of 299", full.size(299), -1);
+        full.array(10, 3);
+        check.due("size(299) of 300", full.size(299), 24);
+        check.due("size(300) of 300", full.size(300), -1);
+    }
+
+    private static void asking(Check check) {
+        Unchanged.due(check, Stories.busy(), "size of an open one", d -> d.size(Stories.STRUCT), 0);
+        Unchanged.due(check, Stories.busy(), "size of an open union", d -> d.size(Stories.UNION), 0);
+        Unchanged.due(check, Stories.busy(), "size of a finished one", d -> d.size(Stories.FINISHED), 4);
     }
 }

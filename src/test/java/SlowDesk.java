@@ -7,7 +7,7 @@ import java.util.Map;
  * The document once more, in another way: a record keeps what was added to it, and its layout is
  * worked out anew, bit by bit, whenever it is asked for.
  */
-final class SlowDesk {
+final class SlowDesk implements Face {
     private static final int LIMIT = 524288;
 
     private record Entry(boolean isBreak, int type, int width, boolean named) {
@@ -43,7 +43,8 @@ final class SlowDesk {
         }
     }
 
-    int pointer(int t) {
+    @Override
+    public int pointer(int t) {
         if (!has(t)) {
             return -1;
         }
@@ -58,7 +59,8 @@ final class SlowDesk {
         return made.get(key);
     }
 
-    int array(int t, int n) {
+    @Override
+    public int array(int t, int n) {
         if (!has(t) || n < 1 || n > LIMIT) {
             return -1;
         }
@@ -80,7 +82,8 @@ final class SlowDesk {
         return made.get(key);
     }
 
-    int record(int kind) {
+    @Override
+    public int record(int kind) {
         if (kind < 0 || kind > 1) {
             return -1;
         }
@@ -95,7 +98,8 @@ final class SlowDesk {
         return kinds.size() - 1;
     }
 
-    int field(int r, int t) {
+    @Override
+    public int field(int r, int t) {
         if (!isOpen(r) || !has(t)) {
             return -1;
         }
@@ -108,7 +112,8 @@ final class SlowDesk {
         return addEntry(r, new Entry(false, t, 0, true)) ? members(r) - 1 : -4;
     }
 
-    int bits(int r, int t, int width, boolean named) {
+    @Override
+    public int bits(int r, int t, int width, boolean named) {
         if (!isOpen(r)) {
             return -1;
         }
@@ -124,7 +129,8 @@ final class SlowDesk {
         return named ? members(r) - 1 : 100;
     }
 
-    boolean separate(int r) {
+    @Override
+    public boolean separate(int r) {
         if (!isOpen(r)) {
             return false;
         }
@@ -132,7 +138,8 @@ final class SlowDesk {
         return true;
     }
 
-    int finish(int r) {
+    @Override
+    public int finish(int r) {
         if (!isOpen(r)) {
             return -1;
         }
@@ -153,15 +160,18 @@ final class SlowDesk {
         return (int) size;
     }
 
-    int types() {
+    @Override
+    public int types() {
         return kinds.size();
     }
 
-    int size(int t) {
+    @Override
+    public int size(int t) {
         return !has(t) ? -1 : (int) kinds.get(t).size;
     }
 
-    int align(int t) {
+    @Override
+    public int align(int t) {
         if (!has(t)) {
             return -1;
         }
@@ -169,14 +179,16 @@ final class SlowDesk {
         return kind.entries == null ? kind.align : layout(kind).align;
     }
 
-    int members(int r) {
+    @Override
+    public int members(int r) {
         if (!isRecord(r)) {
             return -1;
         }
         return (int) kinds.get(r).entries.stream().filter(Entry::isMember).count();
     }
 
-    int member(int r, int k, int what) {
+    @Override
+    public int member(int r, int k, int what) {
         if (k < 0 || k >= members(r)) {
             return -1;
         }
