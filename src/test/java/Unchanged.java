@@ -23,6 +23,27 @@ final class Unchanged {
                 return;
             }
         }
+        for (int r : someRecords(story)) {
+            if (!sameFreeBits(story, story.then(made), r)) {
+                check.tell(call + " changed the free bits of " + r);
+            }
+        }
+    }
+
+    /** With 100 members, free bits show in the size alone, and to bit-fields without a name. */
+    private static boolean sameFreeBits(Story one, Story other, int r) {
+        for (int i = 1; i <= 32; i++) {
+            int width = i;
+            ToIntFunction<Desk> filled = desk -> {
+                desk.bits(r, 6, width, false);
+                desk.field(r, 1);
+                return desk.finish(r);
+            };
+            if (one.then(filled).end() != other.then(filled).end()) {
+                return false;
+            }
+        }
+        return true;
     }
 
     private static boolean sameEnd(Story one, Story other) {
