@@ -87,14 +87,13 @@ public final class WhatItIsTest {
         return low < 2048 ? low % 310 : ODD[low % ODD.length];
     }
 
-    /** One desk hears them all, so most are heard when it is full. */
     private static void oddNumbers(Check check) {
-        LayoutDesk desk = new LayoutDesk();
-        desk.record(0);
-        desk.record(1);
-        desk.array(1, 524288);
         for (int a : ODD) {
             for (int b : ODD) {
+                LayoutDesk desk = new LayoutDesk();
+                desk.record(0);
+                desk.record(1);
+                desk.array(1, 524288);
                 for (int c : ODD) {
                     for (int which = 0; which < 12; which++) {
                         callOne(desk, which, a, b, c);
