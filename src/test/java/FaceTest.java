@@ -13,14 +13,22 @@ public final class FaceTest {
             "int size(int)", "int align(int)", "int members(int)", "int member(int,int,int)");
 
     public static void main(String[] args) {
-        Check check = new Check();
+        Sentences sentences = new Sentences();
+        sentences.test("The public face: public final class LayoutDesk", FaceTest::theClass);
+        sentences.test("The public face: public LayoutDesk()", FaceTest::constructors);
+        sentences.test("The public face: the twelve methods and no others", FaceTest::methods);
+        sentences.test("The public face: .. and no constants", FaceTest::fields);
+        sentences.test("The public face: .. nor classes", FaceTest::classesInside);
+        sentences.end();
+    }
+
+    private static void theClass(Check check) {
         int modifiers = LayoutDesk.class.getModifiers();
-        check.due("public and final", Modifier.isPublic(modifiers) && Modifier.isFinal(modifiers), true);
-        constructors(check);
-        methods(check);
-        fields(check);
-        classesInside(check);
-        check.end();
+        check.due("public", Modifier.isPublic(modifiers), true);
+        check.due("final", Modifier.isFinal(modifiers), true);
+        check.due("without a package", LayoutDesk.class.getPackageName().isEmpty(), true);
+        check.due("without a class above it", LayoutDesk.class.getSuperclass() == Object.class, true);
+        check.due("interfaces", LayoutDesk.class.getInterfaces().length, 0);
     }
 
     private static void constructors(Check check) {
@@ -28,6 +36,7 @@ public final class FaceTest {
         check.due("constructors", all.length, 1);
         check.due("its parameters", all[0].getParameterCount(), 0);
         check.due("it is public", Modifier.isPublic(all[0].getModifiers()), true);
+        check.due("its exceptions", all[0].getExceptionTypes().length, 0);
     }
 
     private static void methods(Check check) {
@@ -39,6 +48,7 @@ public final class FaceTest {
                 shownNames.add(method.getName());
                 check.due(method + " is public and the object's",
                         method.getModifiers(), Modifier.PUBLIC);
+                check.due(method + " declares exceptions", method.getExceptionTypes().length, 0);
             }
         }
         check.due("the face is " + shown, shown.equals(new TreeSet<>(FACE)), true);

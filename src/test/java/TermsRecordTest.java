@@ -3,6 +3,7 @@ public final class TermsRecordTest {
 
     public static void main(String[] args) {
         Sentences sentences = new Sentences();
+        sentences.test("Terms: A RECORD is a struct or a union", TermsRecordTest::structOrUnion);
         sentences.test("Terms: it is OPEN till it is finished, and takes members", TermsRecordTest::open);
         sentences.test("Terms: an open record has no size yet", TermsRecordTest::noSize);
         sentences.test("Terms: MEMBERS are numbered from 0 in the order in which they were added",
@@ -16,6 +17,27 @@ public final class TermsRecordTest {
         sentences.test("Terms: Finished, its size is where it reaches to, rounded up to its alignment",
                 TermsRecordTest::rounded);
         sentences.end();
+    }
+
+    private static void structOrUnion(Check check) {
+        Desk desk = new Desk();
+        int pointer = desk.pointer(1);
+        int array = desk.array(1, 2);
+        int struct = desk.record(0);
+        int union = desk.record(1);
+        for (int t = 0; t <= union; t++) {
+            boolean isRecord = t == struct || t == union;
+            check.due("members(" + t + ")", desk.members(t), isRecord ? 0 : -1);
+            check.due("separate(" + t + ")", desk.separate(t), isRecord);
+            check.due("field(" + t + ", 3)", desk.field(t, 3), isRecord ? 0 : -1);
+            check.due("field(" + t + ", pointer)", desk.field(t, pointer), isRecord ? 1 : -1);
+            check.due("field(" + t + ", array)", desk.field(t, array), isRecord ? 2 : -1);
+        }
+        check.due("finish of the struct", desk.finish(struct), 12);
+        check.due("finish of the union", desk.finish(union), 4);
+        // They are records still, though they take nothing more.
+        check.due("members of the struct", desk.members(struct), 3);
+        check.due("members of the union", desk.members(union), 3);
     }
 
     private static void open(Check check) {

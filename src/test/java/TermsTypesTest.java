@@ -5,8 +5,12 @@ public final class TermsTypesTest {
         sentences.test("Terms: 0 a type without values (size 0)", TermsTypesTest::typeZero);
         sentences.test("Terms: whole numbers of 1, 1, 2, 2, 4, 4, 8, 8 bytes, 9 of 4 and 10 of 8 bytes",
                 TermsTypesTest::numbers);
+        sentences.test("Terms: (.. the odd ones with sign): both of a length lie alike, and are two types",
+                TermsTypesTest::signs);
         sentences.test("Terms: Others get the next number when they are made", TermsTypesTest::nextNumber);
         sentences.test("Terms: the POINTER to a type (4 bytes)", TermsTypesTest::pointers);
+        sentences.test("Terms: the ARRAY of n of a type", TermsTypesTest::arrays);
+        sentences.test("Terms: RECORDS", TermsTypesTest::records);
         sentences.test("Terms: A pointer to the same type is made once", TermsTypesTest::pointerOnce);
         sentences.test("Terms: an array of the same type with the same length is made once",
                 TermsTypesTest::arrayOnce);
@@ -40,6 +44,25 @@ public final class TermsTypesTest {
         }
     }
 
+    /** No call answers whether a type has a sign. */
+    private static void signs(Check check) {
+        for (int odd = 1; odd < 9; odd += 2) {
+            int even = odd + 1;
+            Desk desk = new Desk();
+            check.due("size(" + even + ")", desk.size(even), desk.size(odd));
+            check.due("align(" + even + ")", desk.align(even), desk.align(odd));
+            check.due("pointer(" + odd + ")", desk.pointer(odd), 11);
+            check.due("pointer(" + even + ")", desk.pointer(even), 12);
+            check.due("array(" + odd + ", 2)", desk.array(odd, 2), 13);
+            check.due("array(" + even + ", 2)", desk.array(even, 2), 14);
+            int r = desk.record(0);
+            desk.field(r, odd);
+            desk.field(r, even);
+            check.due("type of the first member", desk.member(r, 0, 1), odd);
+            check.due("type of the second", desk.member(r, 1, 1), even);
+        }
+    }
+
     private static void nextNumber(Check check) {
         Desk desk = new Desk();
         check.due("record(1)", desk.record(1), 11);
@@ -59,6 +82,26 @@ public final class TermsTypesTest {
         for (int t = 0; t < Stories.BUSY_TYPES; t++) {
             Desk desk = Stories.busy().tell();
             check.due("size of the pointer to " + t, desk.size(desk.pointer(t)), 4);
+        }
+    }
+
+    private static void arrays(Check check) {
+        int[] sized = {1, 2, 3, 4, 5, 6, 7, 8, 9, 10, Stories.FINISHED, Stories.POINTER, Stories.ARRAY};
+        int[] lengths = {1, 2, 7, 4096};
+        for (int t : sized) {
+            for (int n : lengths) {
+                Desk desk = Stories.busy().tell();
+                check.due("size of array(" + t + ", " + n + ")", desk.size(desk.array(t, n)), n * desk.size(t));
+            }
+        }
+    }
+
+    private static void records(Check check) {
+        for (int kind = 0; kind < 2; kind++) {
+            Desk desk = Stories.busy().tell();
+            check.due("record(" + kind + ")", desk.record(kind), Stories.BUSY_TYPES);
+            check.due("types()", desk.types(), Stories.BUSY_TYPES + 1);
+            check.due("its members", desk.members(Stories.BUSY_TYPES), 0);
         }
     }
 

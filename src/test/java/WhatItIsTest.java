@@ -6,6 +6,10 @@ public final class WhatItIsTest {
 
     public static void main(String[] args) {
         Sentences sentences = new Sentences();
+        sentences.test("What it is: types with pointers, arrays, structs, unions and bit-fields ..",
+                WhatItIsTest::oneOfEach);
+        sentences.test("What it is: .. and how they lie in memory: sizes, alignments, and the place of each member",
+                WhatItIsTest::nestedLayout);
         sentences.test("What it is: an object is used for 512 calls, and the 512th is answered as due",
                 WhatItIsTest::lastCall);
         sentences.test("What it is: .. 509 bit-fields and none too many", WhatItIsTest::manyBitFields);
@@ -13,6 +17,48 @@ public final class WhatItIsTest {
         sentences.test("What it is: what later calls answer is free, but none throws", WhatItIsTest::laterCalls);
         sentences.test("What it is: no call throws, whatever it is given", WhatItIsTest::oddNumbers);
         sentences.end();
+    }
+
+    private static void oneOfEach(Check check) {
+        Desk desk = new Desk();
+        check.due("a struct", desk.record(0), 11);
+        check.due("a pointer", desk.pointer(11), 12);
+        check.due("an array", desk.array(4, 3), 13);
+        check.due("a union", desk.record(1), 14);
+        check.due("a bit-field", desk.bits(11, 6, 9, true), 0);
+        check.due("types()", desk.types(), 15);
+    }
+
+    /** A union with a pointer and an array, an array of such unions, and a struct with all of them. */
+    private static void nestedLayout(Check check) {
+        Desk desk = new Desk();
+        int struct = desk.record(0);
+        int pointer = desk.pointer(struct);
+        int row = desk.array(3, 3);
+        int union = desk.record(1);
+        desk.field(union, pointer);
+        desk.field(union, row);
+        check.due("the union's size", desk.finish(union), 8);
+        int unions = desk.array(union, 2);
+        int[][] members = {{0, row, 0, 0}, {8, 5, 0, 20}, {8, 6, 20, 12}, {12, 1, 0, 0}, {16, unions, 0, 0},
+            {32, pointer, 0, 0}, {36, 2, 0, 0}};
+        for (int k = 0; k < members.length; k++) {
+            int t = members[k][1];
+            int width = members[k][3];
+            check.due("member " + k, width == 0 ? desk.field(struct, t) : desk.bits(struct, t, width, true), k);
+        }
+        check.due("the struct's size", desk.finish(struct), 40);
+        int[] sizes = {40, 4, 6, 8, 16};
+        int[] alignments = {4, 4, 2, 4, 4};
+        for (int i = 0; i < sizes.length; i++) {
+            check.due("size(" + (struct + i) + ")", desk.size(struct + i), sizes[i]);
+            check.due("align(" + (struct + i) + ")", desk.align(struct + i), alignments[i]);
+        }
+        for (int k = 0; k < members.length; k++) {
+            for (int what = 0; what < 4; what++) {
+                check.due("member(" + k + ", " + what + ")", desk.member(struct, k, what), members[k][what]);
+            }
+        }
     }
 
     private static void last(Check check, String call, Story story, ToIntFunction<Desk> made, int want) {
